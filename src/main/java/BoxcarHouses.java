@@ -245,17 +245,7 @@ public final class BoxcarHouses {
         if (reports.told >= MOST_REPORTS) {
             return FULL;
         }
-        int number = reports.told;
-        reports.having[mill] |= 1L << number;
-        reports.having[4 + wood] |= 1L << number;
-        reports.having[8 + packer] |= 1L << number;
-        reports.having[12 + road] |= 1L << number;
-        if (bad) {
-            reports.badOnes |= 1L << number;
-        }
-        reports.told = number + 1;
-        reports.stale = true;
-        return number;
+        return reports.addReport(mill, wood, packer, road, bad);
     }
 
     public int sure(int v) {
@@ -575,7 +565,8 @@ public final class BoxcarHouses {
         }
 
         private boolean wouldHold(int meeting, int line, int by) {
-            return endAfter(one[meeting], oneEnd[meeting], line, by) == endAfter(two[meeting], twoEnd[meeting], line, by);
+            return endAfter(one[meeting], oneEnd[meeting], line, by)
+                    == endAfter(two[meeting], twoEnd[meeting], line, by);
         }
 
         /** A left end moves from the line on, a right end only behind it: at the line its piece stays. */
@@ -673,9 +664,9 @@ public final class BoxcarHouses {
         final int[] from = new int[MOST_PIECES];
         final int[] sortOf = new int[MOST_PIECES];
         final int[] rest = new int[MOST_PIECES];
-        /** Of each set, what it costs to cut it from one board; below 0: no board is long enough. */
+        /** Of each set but the empty one, what it costs to cut it from one board; below 0: none is long enough. */
         private final int[] oneBoard = new int[1 << MOST_PIECES];
-        /** Of each set, the best cut's number as it counts behind one board more. */
+        /** Of each set, the best cut's number as it counts behind one board more; the empty set's stays 0. */
         private final long[] behind = new long[1 << MOST_PIECES];
 
         void seekBest(int pieces, int[] size) {
@@ -713,7 +704,6 @@ public final class BoxcarHouses {
         }
 
         private void weighBoards(int pieces, int[] size) {
-            oneBoard[0] = 0;
             for (int p = 0; p < pieces; p++) {
                 int bit = 1 << p;
                 for (int set = 0; set < bit; set++) {
@@ -733,7 +723,6 @@ public final class BoxcarHouses {
                 return 0;
             }
             int all = (1 << pieces) - 1;
-            behind[0] = 0;
             for (int set = 2; set < all; set += 2) {
                 behind[set] = leastNumber(set) + oneForEach(set);
             }
@@ -767,11 +756,10 @@ public final class BoxcarHouses {
             total = head / ABOVE_BOARDS;
             used = head % ABOVE_BOARDS;
             long digits = number % ABOVE_DIGITS;
-            for (int p = MOST_PIECES - 1; p > 0; p--) {
+            for (int p = MOST_PIECES - 1; p >= 0; p--) {
                 from[p] = (int) (digits % DIGITS);
                 digits /= DIGITS;
             }
-            from[0] = 0;
         }
 
         private void describeBoards(int pieces, int[] size) {
@@ -813,7 +801,6 @@ public final class BoxcarHouses {
             load[0] = 0;
             load[1] = 0;
             fewest = NONE;
-            bestSet = 0;
             placeFrom(0, 0, 0);
         }
 
@@ -859,13 +846,28 @@ public final class BoxcarHouses {
         int share = 50;
         boolean stale = true;
         int fewest = 0;
-        long badOnes = 0;
-        final long[] having = new long[CAUSES];
         final int[] chosen = new int[CAUSES];
+        private long badOnes = 0;
+        private final long[] having = new long[CAUSES];
         /** Of each cause the bad reports that it may stand for: none, if it is not likely. */
         private final long[] covers = new long[CAUSES];
-        /** Of each cause what it and all behind it cover together. */
+        /** Of each cause what it and all behind it cover together; behind the last nothing. */
         private final long[] coversOn = new long[CAUSES + 1];
+
+        int addReport(int mill, int wood, int packer, int road, boolean bad) {
+            int number = told;
+            long bit = 1L << number;
+            having[mill] |= bit;
+            having[4 + wood] |= bit;
+            having[8 + packer] |= bit;
+            having[12 + road] |= bit;
+            if (bad) {
+                badOnes |= bit;
+            }
+            told = number + 1;
+            stale = true;
+            return number;
+        }
 
         int allWith(int cause) {
             return Long.bitCount(having[cause]);
@@ -888,7 +890,6 @@ public final class BoxcarHouses {
         }
 
         private void seekFewest() {
-            coversOn[CAUSES] = 0;
             for (int c = CAUSES - 1; c >= 0; c--) {
                 covers[c] = suspects(c) ? having[c] & badOnes : 0;
                 coversOn[c] = covers[c] | coversOn[c + 1];
@@ -1090,7 +1091,6 @@ public final class BoxcarHouses {
         private int findWrong() {
             int wants = WANTS_ONE;
             open = 0;
-            digits = 0;
             for (int i = 0; i < size; i++) {
                 wants = wantsAfter(wants, text[i]);
                 if (wants == WRONG) {
@@ -1188,8 +1188,10 @@ public final class BoxcarHouses {
         private int depth = 0;
 
         void begin() {
+            any = 0;
+            all = 1;
+            not = 0;
             depth = 0;
-            beginDepth();
         }
 
         void negate() {
@@ -1203,7 +1205,8 @@ public final class BoxcarHouses {
 
         void enter() {
             depth++;
-            beginDepth();
+            any &= ~(1L << depth);
+            all |= 1L << depth;
         }
 
         void leave() {
@@ -1222,12 +1225,6 @@ public final class BoxcarHouses {
 
         boolean isTrue() {
             return ((any | all) >> depth & 1) != 0;
-        }
-
-        private void beginDepth() {
-            any &= ~(1L << depth);
-            all |= 1L << depth;
-            not &= ~(1L << depth);
         }
     }
 
@@ -1268,8 +1265,9 @@ public final class BoxcarHouses {
         void nextMonth() {
             month++;
             for (int i = 0; i < lent; i++) {
-                if (loans[i].isOpen()) {
-                    loans[i].grow(month);
+                Loan one = loans[i];
+                if (one != null && one.isOpen()) {
+                    one.grow(month);
                 }
             }
         }
@@ -1277,7 +1275,8 @@ public final class BoxcarHouses {
         int openLoans() {
             int open = 0;
             for (int i = 0; i < lent; i++) {
-                if (loans[i].isOpen()) {
+                Loan one = loans[i];
+                if (one != null && one.isOpen()) {
                     open++;
                 }
             }
@@ -1286,10 +1285,12 @@ public final class BoxcarHouses {
 
         int termIn(int when) {
             int found = NONE;
+            int latest = 0;
             for (int t = 0; t < agreed; t++) {
-                if (terms[t].wrongAt == NONE && terms[t].from <= when
-                        && (found == NONE || terms[t].from >= terms[found].from)) {
+                Term one = terms[t];
+                if (one != null && one.wrongAt == NONE && one.from <= when && one.from >= latest) {
                     found = t;
+                    latest = one.from;
                 }
             }
             return found;
