@@ -735,8 +735,9 @@ public final class BoxcarHouses {
             long least = oneBoard[first] * ABOVE_DIGITS + behind[others];
             for (int more = others; more > 0; more = (more - 1) & others) {
                 int cost = oneBoard[first | more];
-                if (cost >= 0) {
-                    least = Math.min(least, cost * ABOVE_DIGITS + behind[others ^ more]);
+                long number = cost * ABOVE_DIGITS + behind[others ^ more];
+                if (cost >= 0 && number < least) {
+                    least = number;
                 }
             }
             return least;

@@ -23,17 +23,9 @@ public final class BoardsTest {
         Due.end();
     }
 
-    private static BoxcarHouses pieces(int... lengths) {
-        BoxcarHouses x = new BoxcarHouses();
-        for (int length : lengths) {
-            x.piece(0, length, 0, false);
-        }
-        return x;
-    }
-
     /** Promise 13. */
     private static void sort() {
-        BoxcarHouses x = pieces(10);
+        BoxcarHouses x = Due.pieces(10);
         for (int s : new int[] {-1, 4, MOST, LEAST}) {
             Due.is("sort(" + s + ", 1, 1)", x.sort(s, 1, 1), Due.UNKNOWN);
             Due.is("sort(" + s + ", -1, -1)", x.sort(s, -1, -1), Due.UNKNOWN);
@@ -56,7 +48,7 @@ public final class BoardsTest {
 
     /** Promise 14. */
     private static void saw() {
-        BoxcarHouses x = pieces(10, 10);
+        BoxcarHouses x = Due.pieces(10, 10);
         for (int v : new int[] {-1, 10, MOST, LEAST}) {
             Due.is("saw(" + v + ")", x.saw(v), Due.OUTSIDE);
         }
@@ -93,7 +85,7 @@ public final class BoardsTest {
     }
 
     private static void fewestBoards() {
-        BoxcarHouses x = pieces(50, 49);
+        BoxcarHouses x = Due.pieces(50, 49);
         x.sort(0, 50, 5);
         x.sort(1, 100, 10);
         Due.is("of like price", x.price(), 10);
@@ -106,19 +98,19 @@ public final class BoardsTest {
 
     /** The first board is not as full as it may be, if that lets an earlier piece have a lesser number. */
     private static void leastNumbers() {
-        BoxcarHouses x = pieces(60, 30, 30, 40);
+        BoxcarHouses x = Due.pieces(60, 30, 30, 40);
         x.saw(0);
         x.sort(0, 100, 1);
         int[] due = {0, 0, 1, 1};
         for (int p = 0; p < 4; p++) {
             Due.is("least numbers, piece " + p, x.board(p), due[p]);
         }
-        BoxcarHouses y = pieces(50, 60, 40, 50);
+        BoxcarHouses y = Due.pieces(50, 60, 40, 50);
         y.saw(0);
         y.sort(0, 100, 1);
         Due.is("boards", y.boards(), 2);
         Due.is("only so", y.board(3), 0);
-        BoxcarHouses z = pieces(70, 60, 40, 30);
+        BoxcarHouses z = Due.pieces(70, 60, 40, 30);
         z.saw(0);
         z.sort(0, 100, 1);
         z.sort(1, 70, 1);
@@ -132,7 +124,7 @@ public final class BoardsTest {
 
     /** Promise 17. */
     private static void board() {
-        BoxcarHouses x = pieces(30, 30);
+        BoxcarHouses x = Due.pieces(30, 30);
         Due.is("no sorts", x.board(0), Due.NONE);
         Due.is("no such piece", x.board(2), Due.UNKNOWN);
         x.sort(0, 31, 1);
@@ -145,7 +137,7 @@ public final class BoardsTest {
 
     /** Promise 18. */
     private static void ofBoard() {
-        BoxcarHouses x = pieces(30, 50);
+        BoxcarHouses x = Due.pieces(30, 50);
         Due.is("no sorts", x.ofBoard(0, 0), Due.UNKNOWN);
         Due.is("no sorts, outside", x.ofBoard(0, 2), Due.UNKNOWN);
         x.sort(3, 30, 2);
@@ -168,7 +160,7 @@ public final class BoardsTest {
 
     private static void left() {
         for (int loss = 0; loss <= 9; loss++) {
-            BoxcarHouses x = pieces(30, 30);
+            BoxcarHouses x = Due.pieces(30, 30);
             x.saw(loss);
             for (int length = 60 + loss; length < 85; length++) {
                 x.sort(0, length, 1);
@@ -180,7 +172,7 @@ public final class BoardsTest {
 
     /** Promise 19. */
     private static void other() {
-        BoxcarHouses x = pieces(100, 90, 90, 60);
+        BoxcarHouses x = Due.pieces(100, 90, 90, 60);
         for (int length : new int[] {0, 401, -1, MOST, LEAST}) {
             Due.is("other(" + length + ")", x.other(length), Due.OUTSIDE);
         }
@@ -201,7 +193,7 @@ public final class BoardsTest {
 
     /** Whatever the cut hangs on changes, the answers are of what is there now. */
     private static void forgetting() {
-        BoxcarHouses x = pieces(40);
+        BoxcarHouses x = Due.pieces(40);
         x.sort(0, 81, 7);
         Due.is("one", x.price(), 7);
         x.piece(0, 40, 0, false);
@@ -224,7 +216,7 @@ public final class BoardsTest {
 
     /** The most pieces, at the most price: nothing runs over. */
     private static void twelve() {
-        BoxcarHouses x = pieces(200, 200, 200, 200, 200, 200, 200, 200, 200, 200, 200, 200);
+        BoxcarHouses x = Due.pieces(200, 200, 200, 200, 200, 200, 200, 200, 200, 200, 200, 200);
         x.sort(0, 400, 9999);
         Due.is("twelve boards", x.boards(), 12);
         Due.is("at the most", x.price(), 119988);
@@ -240,7 +232,7 @@ public final class BoardsTest {
             Due.is("by twos", x.board(p), p / 2);
         }
         Due.is("nothing left", x.ofBoard(5, 1), 0);
-        BoxcarHouses y = pieces(1, 1, 1, 1, 1, 1, 1, 1, 1, 1, 1, 1);
+        BoxcarHouses y = Due.pieces(1, 1, 1, 1, 1, 1, 1, 1, 1, 1, 1, 1);
         y.sort(2, 23, 0);
         Due.is("all from one", y.boards(), 1);
         Due.is("at no price", y.price(), 0);

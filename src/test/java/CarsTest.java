@@ -21,14 +21,6 @@ public final class CarsTest {
         Due.end();
     }
 
-    private static BoxcarHouses pieces(int... lengths) {
-        BoxcarHouses x = new BoxcarHouses();
-        for (int length : lengths) {
-            x.piece(0, length, 0, false);
-        }
-        return x;
-    }
-
     /** Promise 20. */
     private static void car() {
         BoxcarHouses x = new BoxcarHouses();
@@ -48,7 +40,7 @@ public final class CarsTest {
 
     /** Promise 21. */
     private static void packing() {
-        BoxcarHouses x = pieces(10, 10, 10);
+        BoxcarHouses x = Due.pieces(10, 10, 10);
         Due.is("in order from the top", x.packing(), 0);
         x.lean(0, 1, true);
         x.lean(1, 2, true);
@@ -67,7 +59,7 @@ public final class CarsTest {
 
     /** Promise 22. */
     private static void carOf() {
-        BoxcarHouses x = pieces(10, 20, 30);
+        BoxcarHouses x = Due.pieces(10, 20, 30);
         for (int p : new int[] {-1, 3, 12, MOST, LEAST}) {
             Due.is("carOf(" + p + ")", x.carOf(p), Due.UNKNOWN);
         }
@@ -89,7 +81,7 @@ public final class CarsTest {
 
     /** Promise 23. */
     private static void turned() {
-        BoxcarHouses x = pieces(10, 20, 30);
+        BoxcarHouses x = Due.pieces(10, 20, 30);
         for (int set : new int[] {8, 15, -1, MOST, LEAST, 1 << 12}) {
             Due.is("turned(" + set + ")", x.turned(set), Due.OUTSIDE);
         }
@@ -110,7 +102,7 @@ public final class CarsTest {
     }
 
     private static void forgetting() {
-        BoxcarHouses x = pieces(200, 200, 200);
+        BoxcarHouses x = Due.pieces(200, 200, 200);
         Due.is("all in car 0", x.packing() + x.carOf(2), 0);
         x.piece(0, 1, 0, false);
         Due.is("the new one is elsewhere", x.carOf(3), 1);
@@ -123,12 +115,12 @@ public final class CarsTest {
         Due.is("car of 3", x.carOf(3), 1);
         x.lean(0, 3, false);
         Due.is("0 leans no more", x.carOf(3), 0);
-        BoxcarHouses z = pieces(200, 200, 200);
+        BoxcarHouses z = Due.pieces(200, 200, 200);
         Due.is("all in car 1", z.turned(7), 0);
         z.car(0, 1);
         Due.is("packed anew all the same", z.packing(), 0);
         Due.is("all in car 1 then", z.carOf(0), 1);
-        BoxcarHouses y = pieces(100, 100);
+        BoxcarHouses y = Due.pieces(100, 100);
         y.car(0, 200);
         Due.is("both", y.carOf(1), 0);
         y.stretch(50, 1);
@@ -136,7 +128,7 @@ public final class CarsTest {
     }
 
     private static void twelve() {
-        BoxcarHouses x = pieces(200, 200, 200, 200, 200, 200, 200, 200, 200, 200, 200, 200);
+        BoxcarHouses x = Due.pieces(200, 200, 200, 200, 200, 200, 200, 200, 200, 200, 200, 200);
         Due.is("600 and 600 do not hold 2400", x.packing(), Due.NONE);
         x.car(0, 3000);
         Due.is("3000 does", x.packing(), 0);

@@ -40,6 +40,15 @@ final class Due {
         return any(1, 100) <= inHundred;
     }
 
+    /** An object with pieces of these lengths, all at place 0. */
+    static BoxcarHouses pieces(int... lengths) {
+        BoxcarHouses x = new BoxcarHouses();
+        for (int length : lengths) {
+            x.piece(0, length, 0, false);
+        }
+        return x;
+    }
+
     /** Feeds a whole text, eight bytes a call: the last answer. */
     static int feed(BoxcarHouses x, int term, String text) {
         int answer = x.feed(term, 0L);

@@ -34,6 +34,12 @@ public final class LoansTest {
         return x;
     }
 
+    private static void passTo(BoxcarHouses x, int month) {
+        for (int gone = x.count(6); gone < month; gone += 60) {
+            x.pass(Math.min(60, month - gone));
+        }
+    }
+
     /** Promise 30. */
     private static void pass() {
         BoxcarHouses x = new BoxcarHouses();
@@ -350,17 +356,11 @@ public final class LoansTest {
         y.pass(1);
         Due.is("in 120 then", y.soon(0), 120);
         BoxcarHouses z = withTerm("m=19");
-        for (int i = 0; i < 9; i++) {
-            z.pass(60);
-        }
-        z.pass(40);
+        passTo(z, 580);
         z.loan(100, 0, 1);
         Due.is("till 599", z.soon(0), 19);
         BoxcarHouses w = withTerm("m=19");
-        for (int i = 0; i < 9; i++) {
-            w.pass(60);
-        }
-        w.pass(41);
+        passTo(w, 581);
         w.loan(100, 0, 1);
         Due.is("not till 600", w.soon(0), Due.NONE);
         w.pass(18);
@@ -415,10 +415,7 @@ public final class LoansTest {
     private static void greatest() {
         BoxcarHouses x = withTerm("o>99999");
         x.loan(100000, 50, 10000);
-        for (int i = 0; i < 9; i++) {
-            x.pass(60);
-        }
-        x.pass(59);
+        passTo(x, 599);
         BigInteger owed = BigInteger.valueOf(100000);
         for (int month = 0; month <= 599; month++) {
             if (month % 4 == 0 || month > 500) {
