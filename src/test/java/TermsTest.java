@@ -10,7 +10,7 @@ public final class TermsTest {
         force();
         says();
         deep();
-        for (int run = 0; run < 4000; run++) {
+        for (int run = 0; run < 8000; run++) {
             anyText();
         }
         Due.end();
@@ -189,7 +189,8 @@ public final class TermsTest {
             {"!a=3", 0}, {"!a=1", 1}, {"!!a=3", 1}, {"!!!a=3", 0}, {"!a=1&a=3", 1}, {"!a=3|a=3", 1}, {"!(a=3|a=3)", 0},
             {"!(a=1|!a=3)", 1}, {"!(!(!a=1))", 1}, {"a=3&!a=1", 1}, {"a=3&!a=3", 0}, {"a=3&!(a=1)", 1}, {"!(a=1)&!(a=3)", 0},
             {" a = 3 & ! ( d = 1 | d = 2 ) ", 1}, {"(a=1)|(a=1)|(a=3)", 1}, {"a=3&a=3&a=1|a=1&a=3", 0}, {"(a=1|a=3)&(a=3|a=1)", 1},
-            {"((a=1)|!((a=1)))", 1}, {"!(a=3)|(a=1)", 0}, {"w>0", 1}, {"w<1", 0}};
+            {"((a=1)|!((a=1)))", 1}, {"!(a=3)|(a=1)", 0}, {"w>0", 1}, {"w<1", 0},
+            {"(a=3|a=1)&(a=1|a=1)", 0}, {"(a=3|a=1)&(a=1)", 0}, {"(a=1|a=1)|(a=3)", 1}, {"((a=3|a=1))&((a=1)|a=1)", 0}};
         for (Object[] row : rows) {
             Due.is("'" + row[0] + "'", said((String) row[0]), (Integer) row[1]);
         }
@@ -215,7 +216,7 @@ public final class TermsTest {
 
     private static void anyText() {
         StringBuilder made = new StringBuilder();
-        make(made, Due.any(0, 4));
+        make(made, Due.any(0, 5));
         if (Due.chance(40)) {
             String signs = "adomw<=>&|!() 019xb";
             for (int i = Due.any(1, 2); i > 0 && made.length() > 0; i--) {
