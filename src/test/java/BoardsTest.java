@@ -20,6 +20,9 @@ public final class BoardsTest {
         for (int run = 0; run < 12; run++) {
             anyCut(8);
         }
+        for (int run = 0; run < 20; run++) {
+            anyCut(9 + run % 4);
+        }
         Due.end();
     }
 
